@@ -90,8 +90,7 @@ public final class HoundlightProofs {
             throw new IllegalArgumentException("c is not -20 to 20");
         }
         Loop.put(loop.guards, branch, first, second, third, c);
-        loop.chart(branch);
-        loop.reach();
+        loop.redraw(branch);
         sifted = false;
         return loop.opennessOf(branch);
     }
@@ -108,8 +107,7 @@ public final class HoundlightProofs {
             throw new IllegalArgumentException("e is not -5 to 5");
         }
         Loop.put(loop.updates, branch, first, second, third, e);
-        loop.chart(branch);
-        loop.reach();
+        loop.redraw(branch);
         sifted = false;
         return loop.changesBy(branch);
     }
@@ -499,8 +497,7 @@ public final class HoundlightProofs {
             variables[branch] = variable;
             put(guards, branch, 0, 0, 0, 0);
             put(updates, branch, variable == 0 ? 1 : 0, variable == 1 ? 1 : 0, variable == 2 ? 1 : 0, 0);
-            chart(branch);
-            reach();
+            redraw(branch);
             return branch;
         }
 
@@ -539,7 +536,12 @@ public final class HoundlightProofs {
                     variable == 2 ? number : numberOf(state, 2));
         }
 
-        void chart(int branch) {
+        void redraw(int branch) {
+            chart(branch);
+            reach();
+        }
+
+        private void chart(int branch) {
             for (int state = 0; state < states; state++) {
                 targets[branch * MOST_STATES + state] = isOpen(branch, state) ? landing(branch, state) : NONE;
             }
@@ -584,7 +586,7 @@ public final class HoundlightProofs {
         }
 
         /** Each state enters the queue once, so that the queue never outgrows the states. */
-        void reach() {
+        private void reach() {
             for (int state = 0; state < states; state++) {
                 soon[state] = NONE;
             }

@@ -18,6 +18,7 @@ public final class GuessTests {
         promise8();
         promise8Draws();
         promise8Ends();
+        promise8Longest();
         promise9();
         promise9First();
         promise10();
@@ -183,6 +184,21 @@ public final class GuessTests {
         Check.same("by a RUN", 0, () -> x.ofGuess(0, 5));
         Check.same("there", 62, () -> x.ofGuess(0, 6));
         Check.same("one by a RUN", 1, () -> x.loop(4));
+    }
+
+    /** x is 1 and -1 by turns, without an END: the longest RUN has 60 STEPS. */
+    private static void promise8Longest() {
+        HoundlightProofs x = new HoundlightProofs();
+        x.begin(1, 1, 0, 0);
+        x.branch(0);
+        x.update(0, -1, 0, 0, 0);
+        Check.same("an even turn", 22, () -> x.wouldEnd(198, 60));
+        Check.same("an odd turn", 4, () -> x.wouldEnd(198, 59));
+        Check.same("learn", 9, () -> x.learn(0, 60));
+        Check.same("nothing falls", 0, () -> x.run(0, 60));
+        x.guess(1, 0, 0, 0);
+        Check.same("x >= 0 falls", 1, () -> x.run(0, 60));
+        Check.same("there", 4, () -> x.ofGuess(9, 6));
     }
 
     /** First x goes up, then y follows it: x <= 0 falls in the ROUND 1, y <= 0 in the ROUND 2. */

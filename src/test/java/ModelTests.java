@@ -19,6 +19,7 @@ public final class ModelTests {
         for (int seed = 0; seed < runs; seed++) {
             new ModelTests(seed).runAll(seed);
         }
+        new ModelTests(runs).runFull();
         Check.end("ModelTests");
     }
 
@@ -41,6 +42,38 @@ public final class ModelTests {
             }
         }
         same("digest", proofs::digest, model::digest);
+    }
+
+    /** All BRANCHES, all GUESSES and all STATES that there can be. */
+    private void runFull() {
+        same("begin(3, 0, 0, 0)", () -> proofs.begin(3, 0, 0, 0), () -> model.begin(3, 0, 0, 0));
+        for (int branch = 0; branch < 8; branch++) {
+            int b = branch;
+            int down = branch < 4 ? -1 : 1;
+            same("branch(" + b + " % 3)", () -> proofs.branch(b % 3), () -> model.branch(b % 3));
+            same("guard(" + b + ", ..)", () -> proofs.guard(b, 1, down, -1, b - 3),
+                () -> model.guard(b, 1, down, -1, b - 3));
+            same("update(" + b + ", ..)", () -> proofs.update(b, down, 1, 1, b - 5),
+                () -> model.update(b, down, 1, 1, b - 5));
+        }
+        for (int guess = 0; guess < 40; guess++) {
+            int g = guess;
+            same("guess(" + g + " % 6, ..)", () -> proofs.guess(g % 6, g % 3, g % 2, g % 7),
+                () -> model.guess(g % 6, g % 3, g % 2, g % 7));
+        }
+        same("begin(3, -3, 0, 1)", () -> proofs.begin(3, -3, 0, 1), () -> model.begin(3, -3, 0, 1));
+        same("digest()", proofs::digest, model::digest);
+        same("run(0, 60)", () -> proofs.run(0, 60), () -> model.run(0, 60));
+        same("learn(0, 60)", () -> proofs.learn(0, 60), () -> model.learn(0, 60));
+        same("sift()", proofs::sift, model::sift);
+        for (int guess = 0; guess < 40; guess++) {
+            int g = guess;
+            same("needed(" + g + ")", () -> proofs.needed(g), () -> model.needed(g));
+            same("wouldKeep(" + g + ")", () -> proofs.wouldKeep(g), () -> model.wouldKeep(g));
+        }
+        same("digest()", proofs::digest, model::digest);
+        same("begin(1, 0, 0, 1)", () -> proofs.begin(1, 0, 0, 1), () -> model.begin(1, 0, 0, 1));
+        same("digest()", proofs::digest, model::digest);
     }
 
     /** Mostly a number of least to most, now and then one beside them or far off. */

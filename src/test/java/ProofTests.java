@@ -13,6 +13,8 @@ public final class ProofTests {
         promise16Chain();
         promise17();
         promise17Falls();
+        promise17Edges();
+        stateZero();
         promise21();
         promise22();
         promise23();
@@ -176,6 +178,58 @@ public final class ProofTests {
         Check.same("z up and down: none", -1, () -> x.loop(12));
     }
 
+    /** The greatest SOON in the STATE 0, and the greatest changes, up and down. */
+    private static void promise17Edges() {
+        HoundlightProofs x = new HoundlightProofs();
+        x.begin(1, 1, -1, -1);
+        x.branch(0);
+        x.update(0, 1, 0, 0, -1);
+        Check.same("two STEPS down to the STATE 0", 2, () -> x.loop(11));
+        Check.same("three are FOUND", 3, () -> x.loop(9));
+        x.guard(0, -1, 0, 0, 0);
+        Check.same("OPEN at 0, it still goes there", 2, () -> x.loop(11));
+        x.guard(0, -1, 0, 0, -1);
+        Check.same("a GUARD changes what is FOUND", 2, () -> x.loop(9));
+        Check.same("and the greatest SOON", 1, () -> x.loop(11));
+        HoundlightProofs y = new HoundlightProofs();
+        y.begin(3, 3, 0, 0);
+        y.branch(0);
+        y.guard(0, -1, 0, 0, -3);
+        y.update(0, 0, 0, 0, -3);
+        Check.same("6 down: 1 -2 -2", 75, () -> y.loop(12));
+        y.branch(0);
+        y.guard(1, 1, 0, 0, -3);
+        y.update(1, 1, 0, 0, 1);
+        Check.same("and 1 up: none", -1, () -> y.loop(12));
+        y.update(1, 0, 0, 0, 5);
+        Check.same("and 6 up: none", -1, () -> y.loop(12));
+        y.update(0, 1, 0, 0, -1);
+        y.guard(0, -1, 0, 0, 2);
+        Check.same("1 down and 6 up: none", -1, () -> y.loop(12));
+    }
+
+    /** The STATE 0 counts as any other one. */
+    private static void stateZero() {
+        HoundlightProofs x = new HoundlightProofs();
+        x.begin(1, -1, -1, -1);
+        x.branch(2);
+        x.guard(0, 1, 1, 1, -3);
+        x.update(0, 0, 0, 0, 0);
+        x.guess(0, 2, 2, -1);
+        x.guess(1, 2, 2, 0);
+        x.guess(0, 0, 0, 0);
+        Check.same("z goes up there: -2 -2 -2", 0, () -> x.loop(12));
+        Check.same("z >= 0 is a lie there", 1, () -> x.lies(1));
+        Check.same("z <= -1 would fall by it", 1, () -> x.wouldKeep(1));
+        Check.same("the WITNESS 0 against nothing", 1, () -> x.goal(0, 0));
+        x.sift();
+        Check.same("z <= -1 falls by it", 0, () -> x.ofGuess(0, 6));
+        Check.same("the WITNESS is 0", 0, () -> x.goal(1, 2));
+        Check.same("the WITNESS that is an END is not", 3, () -> x.goal(1, 3));
+        x.update(0, 0, 0, 0, -1);
+        Check.same("a STEP that changes nothing there: no FALL", -1, () -> x.loop(12));
+    }
+
     private static void promise21() {
         HoundlightProofs x = climber();
         x.branch(1);
@@ -267,9 +321,15 @@ public final class ProofTests {
             d = d * 31 + v;
         }
         Check.same("digest of a new object", d, x::digest);
-        HoundlightProofs y = climber();
+        HoundlightProofs y = new HoundlightProofs();
+        y.begin(3, -3, -3, -3);
+        y.branch(0);
+        y.update(0, 1, 0, 0, 1);
         y.branch(1);
-        y.guess(0, 0, 0, 0);
+        y.update(1, 0, 1, 0, 1);
+        y.branch(2);
+        y.update(2, 0, 0, 1, 1);
+        y.guess(0, 0, 0, 3);
         y.guess(0, 1, 1, 0);
         y.guess(1, 2, 2, 1);
         y.sift();
@@ -286,7 +346,11 @@ public final class ProofTests {
             }
             e = e * 31 + y.lies(guess);
         }
-        long[] rest = {22, 13, 2, y.wouldEnd(1, 1), y.wouldEnd(9, 9), 21, 1};
+        long[] rest = {49, 7, 1, 1, y.wouldEnd(1, 1), y.wouldEnd(9, 9), 21, 1};
+        Check.same("one turn is not two", true, () -> y.wouldEnd(1, 1) != y.wouldEnd(1, 2));
+        Check.same("nine are not ten", true, () -> y.wouldEnd(9, 9) != y.wouldEnd(9, 10));
+        Check.same("seed 9 is not seed 10", true, () -> y.wouldEnd(9, 9) != y.wouldEnd(10, 9));
+        Check.same("seed 1 is not seed 2", true, () -> y.wouldEnd(1, 1) != y.wouldEnd(2, 1));
         for (long v : rest) {
             e = e * 31 + v;
         }
