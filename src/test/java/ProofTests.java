@@ -206,6 +206,8 @@ public final class ProofTests {
         y.update(0, 1, 0, 0, -1);
         y.guard(0, -1, 0, 0, 2);
         Check.same("1 down and 6 up: none", -1, () -> y.loop(12));
+        y.guard(0, 0, 0, 0, -1);
+        Check.same("no STEP from START any more", 0, () -> y.loop(12));
     }
 
     /** The STATE 0 counts as any other one. */

@@ -374,7 +374,7 @@ final class Model {
         return new int[] {safe == -1 ? 1 : 0, done == -1 ? 1 : 0, safe, done, lies(goal) == 0 ? 1 : 0}[what];
     }
 
-    /** The other way to read «these are what is left»: the others, KEPT or not; what is asked last is the same. */
+    /** The other way to read "these are what is left": the others, KEPT or not; what is asked last is the same. */
     long needed(int goal) {
         index(goal, guesses.size());
         state(sifted);
