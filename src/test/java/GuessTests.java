@@ -23,6 +23,7 @@ public final class GuessTests {
         promise9First();
         promise10();
         promises11And12();
+        promise12Everywhere();
         promises18To20();
         Check.end("GuessTests");
     }
@@ -303,18 +304,6 @@ public final class GuessTests {
             Check.refused("ofGuess of no GUESS", INDEX, x, () -> x.ofGuess(wrong, 0));
             Check.refused("holds of no GUESS", INDEX, x, () -> x.holds(wrong, 0));
         }
-        for (int state = 0; state < 125; state++) {
-            int s = state;
-            int i = state / 25 - 2;
-            int j = state / 5 % 5 - 2;
-            int k = state % 5 - 2;
-            boolean[] so = {i <= 1, j >= -1, i < j, j + k <= 2, k == -1 || k == 1,
-                i + k == 2 || i + k == -1 || i + k == -4, i > 1 || j >= -1};
-            for (int guess = 0; guess < 7; guess++) {
-                int g = guess;
-                Check.same("holds(" + g + ", " + s + ")", so[g], () -> x.holds(g, s));
-            }
-        }
         x.run(0, 1);
         Check.same("x + z is 2 by 3 is struck", 0, () -> x.ofGuess(5, 4));
         Check.same("what is struck still HOLDS where it did", true, () -> x.holds(5, 112));
@@ -323,6 +312,23 @@ public final class GuessTests {
         x.begin(1, 0, 0, 0);
         Check.same("of 27", 18, () -> x.ofGuess(1, 9) - 9);
         Check.refused("holds behind the last of 27", INDEX, x, () -> x.holds(0, 27));
+    }
+
+    /** Each KIND in each STATE, each of a new object: 512 calls are not enough for all. */
+    private static void promise12Everywhere() {
+        for (int guess = 0; guess < 7; guess++) {
+            HoundlightProofs x = oneOfEach();
+            int g = guess;
+            for (int state = 0; state < 125; state++) {
+                int s = state;
+                int i = state / 25 - 2;
+                int j = state / 5 % 5 - 2;
+                int k = state % 5 - 2;
+                boolean[] so = {i <= 1, j >= -1, i < j, j + k <= 2, k == -1 || k == 1,
+                    i + k == 2 || i + k == -1 || i + k == -4, i > 1 || j >= -1};
+                Check.same("holds(" + g + ", " + s + ")", so[g], () -> x.holds(g, s));
+            }
+        }
     }
 
     private static void promises18To20() {

@@ -93,12 +93,10 @@ public final class LoopTests {
             Check.same("branch", number, () -> x.branch(variable));
         }
         Check.same("not SIFTED", 0, () -> x.loop(13));
-        for (int branch = 0; branch < 8; branch++) {
-            for (int state = 0; state < 125; state++) {
-                int b = branch;
-                int s = state;
-                Check.same("changes nothing", state, () -> x.step(b, s));
-            }
+        for (int state = 0; state < 125; state++) {
+            int s = state;
+            Check.same("the first changes nothing", state, () -> x.step(0, s));
+            Check.same("the last changes nothing", state, () -> x.step(7, s));
         }
         x.sift();
         Check.refused("the ninth", STATE, x, () -> x.branch(0));
