@@ -22,6 +22,8 @@ public final class EdgeGoalTests {
         fallsBecomeLess();
         fallsOfStepsThatStay();
         fallsOfFoundStatesAlone();
+        fallsFromTheFirstState();
+        fallsByTheGreatestChanges();
         firstFallIsTheSmallest();
         fallWithoutSteps();
         houndCounts();
@@ -298,6 +300,13 @@ public final class EdgeGoalTests {
         Check.same("the last one by 18 STEPS", 18, () -> x.loop(11));
         Check.same("the last one", 18, () -> x.ofState(342, 6));
         Check.same("the first one", 0, () -> x.ofState(0, 6));
+        HoundlightProofs y = new HoundlightProofs();
+        y.begin(3, 3, 3, 3);
+        for (int variable = 0; variable < 3; variable++) {
+            Scenes.adding(y, variable, -1);
+        }
+        Check.same("down to the STATE 0", 18, () -> y.ofState(0, 6));
+        Check.same("which alone is that far", 18, () -> y.loop(11));
     }
 
     /** «A GOAL is TRUE, if it HOLDS in each STATE that is FOUND.» */
@@ -358,6 +367,38 @@ public final class EdgeGoalTests {
         Check.same("begun there: none", -1, () -> x.loop(12));
         x.begin(1, 0, -1, 0);
         Check.same("and not", 3, () -> x.loop(12));
+    }
+
+    /** «each STEP from a STATE that is FOUND»: the STATE 0 is one. */
+    private static void fallsFromTheFirstState() {
+        HoundlightProofs x = small();
+        x.begin(1, -1, -1, -1);
+        Scenes.setting(x, 0, 0);
+        x.guard(0, 1, 0, 0, -1);
+        Scenes.setting(x, 0, -1);
+        x.guard(1, -1, 0, 0, 0);
+        Check.same("x goes up from there alone, and down again: none", -1, () -> x.loop(12));
+        x.guard(1, 0, 0, 0, -1);
+        Check.same("up alone", 0, () -> x.loop(12));
+        Check.same("two are FOUND", 2, () -> x.loop(9));
+    }
+
+    /** «the sum .. becomes less with each STEP»: a STEP changes a number by 6 at most. */
+    private static void fallsByTheGreatestChanges() {
+        HoundlightProofs x = new HoundlightProofs();
+        x.begin(3, 3, 3, 3);
+        Scenes.setting(x, 1, -3);
+        x.guard(0, 0, -1, 0, -3);
+        Check.same("6 down: -2 1 -2", 15, () -> x.loop(12));
+        Scenes.setting(x, 1, 3);
+        x.guard(1, 0, 1, 0, -3);
+        Check.same("and 6 up: none", -1, () -> x.loop(12));
+        x.guard(0, 0, 0, 0, -1);
+        x.begin(3, 3, -3, 3);
+        Check.same("6 up alone", 0, () -> x.loop(12));
+        Scenes.adding(x, 1, -1);
+        x.guard(2, 0, -1, 0, -3);
+        Check.same("and 1 down: none", -1, () -> x.loop(12));
     }
 
     /** «each and 2, as digits to the base 5 ..; the FIRST FALL is that with the smallest number» */

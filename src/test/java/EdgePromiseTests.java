@@ -8,6 +8,7 @@ public final class EdgePromiseTests {
         objectsAreTheirOwn();
         beginKeepsTheRest();
         beginTurnsToTheNewBound();
+        beginWithAllThereCanBe();
         beginAnswersStart();
         branchIsOpenEverywhere();
         guardAnswersHowMany();
@@ -41,6 +42,7 @@ public final class EdgePromiseTests {
         digestOfANewObject();
         digestOfAll();
         digestOfSteps();
+        digestOfEnds();
         digestCutsThePart();
         digestChangesNothing();
         Check.end("EdgePromiseTests");
@@ -108,6 +110,23 @@ public final class EdgePromiseTests {
             Check.same("closed where x is more than 1", new int[] {0, 25, 98}[b - 1], () -> x.loop(7));
             Check.same("the last STATE", b == 1 ? 26 : -1, () -> x.step(0, x.loop(0) - 1));
             Check.same("FOUND", 2, () -> x.loop(9));
+        }
+    }
+
+    /** «Tells BOUND and START», with 8 BRANCHES and 40 GUESSES */
+    private static void beginWithAllThereCanBe() {
+        HoundlightProofs x = Scenes.full();
+        for (int bound : new int[] {3, 1, 2}) {
+            int b = bound;
+            Check.same("begin", Scenes.code(b, -b, b, 1), () -> x.begin(b, -b, b, 1));
+            int start = Scenes.code(b, -b, b, 1);
+            Check.same("the last BRANCH", start - 1, () -> x.step(7, start));
+            Check.same("the last GUESS", true, () -> x.holds(39, start - 1));
+            Check.same("the last GUESS in START", false, () -> x.holds(39, start));
+            Check.same("x stays, y is more than 0", 20, () -> {
+                x.sift();
+                return x.loop(3);
+            });
         }
     }
 
@@ -213,6 +232,12 @@ public final class EdgePromiseTests {
         Check.same("two turns: 3, -2, 3", 9, () -> x.learn(0, 2));
         Check.same("all three", "x <= 3; x >= -2; y <= 0; y >= 0; z <= -3; z >= -3; x - y <= 3; x - z <= 6; "
             + "y - z <= 3; ", () -> learned(x, 0));
+        HoundlightProofs y = new HoundlightProofs();
+        y.begin(3, 0, 3, -1);
+        Scenes.adding(y, 1, -1);
+        Check.same("two turns: y is 3, 2, 1", 9, () -> y.learn(0, 2));
+        Check.same("x - y is -3, -2, -1", "x <= 0; x >= 0; y <= 3; y >= 1; z <= -1; z >= -1; x - y <= -1; x - z <= 1; "
+            + "y - z <= 4; ", () -> learned(y, 0));
         x.begin(3, -2, 0, -3);
         Check.same("one turn: -2, 3", 9, () -> x.learn(0, 1));
         Check.same("the last STATE counts", "x <= 3; x >= -2", () -> x.words(9) + "; " + x.words(10));
@@ -718,6 +743,25 @@ public final class EdgePromiseTests {
         d = (d * 31 - 1) * 31 + Scenes.code(1, 1, 1, -1);
         long due = (withEnds(d, x) * 31 + 64) * 31 + 1;
         Check.same("one is closed in START, one OPEN", due, x::digest);
+    }
+
+    /** «wouldEnd() of 1 and 1, then of 9 and 9 (seed and turns)», where other seeds and turns end elsewhere */
+    private static void digestOfEnds() {
+        HoundlightProofs x = new HoundlightProofs();
+        x.begin(3, -3, -3, -3);
+        Scenes.adding(x, 0, 1);
+        Scenes.adding(x, 1, 1);
+        Scenes.adding(x, 2, 1);
+        Check.same("seed 1 draws 60: place 0", 49, () -> x.wouldEnd(1, 1));
+        Check.same("seed 0 does not", true, () -> x.wouldEnd(0, 1) != 49 && x.wouldEnd(1, 2) != 49);
+        int nine = x.wouldEnd(9, 9);
+        Check.same("nor do others", true, () -> x.wouldEnd(9, 8) != nine && x.wouldEnd(9, 10) != nine);
+        long d = withLoop(x);
+        for (int step : new int[] {49, 7, 1}) {
+            d = d * 31 + step;
+        }
+        long due = ((((d * 31) * 31 + 49) * 31 + nine) * 31 + 64) * 31 + 1;
+        Check.same("without GUESSES", due, x::digest);
     }
 
     /** «64 times part() (that product cut to a whole number)» */
