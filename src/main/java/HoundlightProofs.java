@@ -585,7 +585,7 @@ public final class HoundlightProofs {
             return soon[state] != NONE;
         }
 
-        /** Each state enters the queue once, so that the queue never outgrows the states. */
+        /** Each state enters the queue once, so that there is always room: it is looked at all the same. */
         private void reach() {
             for (int state = 0; state < states; state++) {
                 soon[state] = NONE;
@@ -597,7 +597,7 @@ public final class HoundlightProofs {
                 int from = queue[at];
                 for (int branch = 0; branch < branches; branch++) {
                     int to = targetOf(branch, from);
-                    if (to != NONE && soon[to] == NONE) {
+                    if (to != NONE && soon[to] == NONE && found < states) {
                         soon[to] = soon[from] + 1;
                         queue[found] = to;
                         found++;
